@@ -17,6 +17,8 @@ public final class HoursTest {
         withoutConesAllAreSentAway();
         iceMelts();
         emptyTubIsNotSoft();
+        softestScoopsAreSold();
+        fullCellar();
         Due.end("HoursTest");
     }
 
@@ -264,5 +266,55 @@ public final class HoursTest {
         Due.is("about(0, 1)", x.about(0, 1), 0);
         Due.is("about(0, 2)", x.about(0, 2), 4);
         Due.is("count(9)", x.count(9), 1);
+    }
+
+    private static void softestScoopsAreSold() {
+        ColdCreamery x = tubOfFifty();
+        x.bring(3, 10);
+        x.setHeat(0, 39);
+        x.setHeat(1, 40);
+        x.pass(5);
+        Due.is("about(0, 1)", x.about(0, 1), 75);
+        x.setHeat(0, 0);
+        x.pass(14);
+        Due.is("about(0, 1) the next day", x.about(0, 1), 61);
+        x.pass(7);
+        Due.is("about(0, 1)", x.about(0, 1), 100);
+        Due.is("about(0, 0)", x.about(0, 0), 10);
+        Due.is("next()", x.next(), 0);
+        x.pass(3);
+        Due.is("about(0, 0) at ten", x.about(0, 0), 4);
+        x.setHeat(1, 36);
+        Due.is("pass(1): two scoops melt, two are sold", x.pass(1), 4);
+        Due.is("about(0, 2)", x.about(0, 2), 2);
+    }
+
+    /** Four churns and six tubs, of which the first and the last have a hand in it. */
+    private static void fullCellar() {
+        ColdCreamery x = Scenes.stocked(0, 0, 60, 60, 4, 6);
+        x.pour(3, 1);
+        x.pass(1);
+        Due.is("next()", x.next(), -1);
+        x.pass(4);
+        Scenes.firmCream(x, 2, 5);
+        x.scoop(0, 0);
+        Scenes.firmCream(x, 2, 5);
+        x.scoop(0, 5);
+        Due.is("count(7), without four that were sold of tub 0", x.count(7), 4);
+        Due.is("pass(1)", x.pass(1), 12);
+        Due.is("count(8)", x.count(8), 8);
+        Due.is("about(5, 2)", x.about(5, 2), 4);
+        x.pass(8);
+        Scenes.firmCream(x, 2, 5);
+        x.scoop(0, 0);
+        Scenes.firmCream(x, 3, 5);
+        x.scoop(0, 5);
+        Due.is("count(7) of the first and the last tub", x.count(7), 10);
+        x.bring(0, 60);
+        x.bring(1, 60);
+        x.pack(3, 60, 15);
+        Due.is("foresee(1, 7)", x.foresee(1, 7), 5);
+        x.pass(1);
+        Due.is("told(3, 2)", x.told(3, 2), 10);
     }
 }

@@ -93,6 +93,20 @@ public final class WouldBeTest {
         Due.is("foresee(1, 6): and their coins", x.foresee(1, 6) - x.count(6), 15);
         Due.is("foresee(1, 7): and their scoops", x.foresee(1, 7) - x.count(7), -5);
         Due.is("foresee(1, 2)", x.foresee(1, 2), x.count(2) - 4);
+        foreseeSoftScoops();
+    }
+
+    private static void foreseeSoftScoops() {
+        ColdCreamery x = Scenes.stocked(0, 0, 60, 60, 1, 2);
+        x.pass(5);
+        Scenes.firmCream(x, 20, 5);
+        x.scoop(0, 0);
+        x.setHeat(0, 24);
+        Due.is("foresee(1, 6): soft by 52", x.foresee(1, 6), 12);
+        Due.is("foresee(2, 6)", x.foresee(2, 6), 24);
+        x.setHeat(0, 16);
+        Due.is("foresee(1, 6): soft by 49", x.foresee(1, 6), 12);
+        Due.is("foresee(2, 8)", x.foresee(2, 8), 8);
     }
 
     private static void foreseeRefuses() {
