@@ -1,7 +1,12 @@
+import java.util.HashSet;
+import java.util.Set;
+
 /** What the tests share: compares answers with the due ones and counts the wrong ones. */
 final class Due {
     private static int checked = 0;
     private static int wrong = 0;
+    private static final Set<String> sentences = new HashSet<>();
+    private static String sentence = "";
 
     private Due() {
     }
@@ -10,27 +15,25 @@ final class Due {
         long run();
     }
 
+    /** What is checked from here on is what these words of the document say: a wrong answer is told with them. */
+    static void sentence(String words) {
+        sentences.add(words);
+        sentence = words + ": ";
+    }
+
     static void is(String call, long got, long want) {
-        checked++;
-        if (got != want) {
-            wrong++;
-            System.out.println(call + " answered " + got + ", due is " + want);
-        }
+        isText(call, Long.toString(got), Long.toString(want));
     }
 
     static void isShare(String call, double got, double want) {
-        checked++;
-        if (Double.compare(got, want) != 0) {
-            wrong++;
-            System.out.println(call + " answered " + got + ", due is " + want);
-        }
+        isText(call, Double.toString(got), Double.toString(want));
     }
 
     static void isText(String call, String got, String want) {
         checked++;
         if (!got.equals(want)) {
             wrong++;
-            System.out.println(call + " answered " + got + ", due is " + want);
+            System.out.println(sentence + call + " answered " + got + ", due is " + want);
         }
     }
 
@@ -41,6 +44,12 @@ final class Due {
         } catch (RuntimeException e) {
             return e.getClass().getSimpleName();
         }
+    }
+
+    /** The call must not throw; what it answers is checked elsewhere. */
+    static void allowed(String name, Call call) {
+        String outcome = outcome(call);
+        isText(name, outcome.endsWith("Exception") ? outcome : "an answer", "an answer");
     }
 
     static void index(ColdCreamery x, String name, Call call) {
@@ -62,7 +71,8 @@ final class Due {
     }
 
     static void end(String test) {
-        System.out.println(test + ": " + checked + " checked, " + wrong + " wrong");
+        String of = sentences.isEmpty() ? "" : " of " + sentences.size() + " sentences";
+        System.out.println(test + ": " + checked + " checked" + of + ", " + wrong + " wrong");
         if (wrong != 0) {
             System.exit(1);
         }
